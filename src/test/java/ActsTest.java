@@ -8,6 +8,7 @@ public final class ActsTest {
         monksGiveNothing();
         holesWed();
         rentsArePaid();
+        fifthHole();
         eats();
         lets();
         sells();
@@ -120,6 +121,26 @@ public final class ActsTest {
         check.dueBalances("a miser that owns has all of it", owner, 1, -1);
     }
 
+    private static void fifthHole() {
+        LetHoles x = Check.dairy("DO0O0Ha02Hc02He02Hk02Ht11");
+        check.due("whose is its cell", x.cell(19, 2), 1);
+        x.let(4, 0);
+        check.due("it takes 14 and 9 and weds hole 2", x.day(), 1);
+        check.due("its cells", x.hole(4, 3), Check.bits(4, 9, 14, 19));
+        check.due("cells of its owner", x.owner(1, 4), 4);
+        check.dueBalances("its rent is paid", x, -4, 4 - 2);
+        check.due("its owner's cells in rests", x.rests(0, 1, 0), 1);
+        x.sell(4, 0);
+        check.due("sold, let no more", x.hole(4, 2), Check.NONE);
+        check.due("undone", x.undo(), 2);
+        check.due("whose it was", x.hole(4, 1), 1);
+        check.due("to whom it was let", x.hole(4, 2), 0);
+        check.due("undone, ahead of the day", x.undo(), 1);
+        check.due("its cell alone", x.hole(4, 3), Check.bits(19));
+        x.eat(1, 19);
+        check.due("its cell is eaten", x.hole(4, 1), Check.NONE);
+    }
+
     private static void eats() {
         LetHoles x = Check.dairy("DO0O2R00R11Ha11Hs00");
         check.due("own paste", x.eat(0, 1), 0);
@@ -212,6 +233,7 @@ public final class ActsTest {
         check.due("14 acts at most", x.count(7), 14);
         for (int left = 13; left >= 0; left--) {
             check.due("undo", x.undo(), left);
+            check.due("the day of undo", x.count(3), left + 2);
         }
         check.due("the first two days are forgotten", x.count(3), 2);
         check.due("nothing more", x.undo(), Check.STATE);

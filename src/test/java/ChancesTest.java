@@ -176,8 +176,22 @@ public final class ChancesTest {
         check.due("nothing is eaten here", blind.count(4), Check.bits(8));
         blind.seed(0L);
         check.due("years(2): a day, then its cell is eaten", blind.years(2), 0);
+        // Ahead of lots 19 and 20: the last cell is eaten, the least lot above it is a day.
+        LetHoles edge = Check.dairy("DO0Ht00");
+        edge.seed(seedAheadOf(19));
+        check.due("lot 19", edge.years(1), 0);
+        edge.seed(seedAheadOf(20));
+        check.due("lot 20", edge.years(1), 2);
         LetHoles nobody = new LetHoles();
         check.due("nobody eats", nobody.years(30), 0);
+    }
+
+    private static long seedAheadOf(int lot) {
+        long seed = 0L;
+        while (((seed * 6364136223846793005L + 1442695040888963407L) >>> 33) % 28 != lot) {
+            seed++;
+        }
+        return seed;
     }
 
     /** The same years as acts on an object of their own. */

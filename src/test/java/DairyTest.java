@@ -69,6 +69,12 @@ public final class DairyTest {
         dueFault("DO", 2);
         dueFault("DO3", Check.NONE);
         dueFault("DO/", 2);
+        dueFault("DO4", 2);
+        dueFault("DO0R4", 4);
+        dueFault("DO0R/", 4);
+        dueFault("DO0H`", 4);
+        dueFault("DO0Hu", 4);
+        dueFault("DO0Ha0/", 6);
         dueFault("DR", 1);
         dueFault("DH", 1);
         dueFault("DO0R", 4);
