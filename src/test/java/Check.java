@@ -1,3 +1,5 @@
+import java.util.List;
+
 /** What the tests share: answers held against those that are due, and dairies told in one go. */
 final class Check {
     static final int UNKNOWN = -1, OUTSIDE = -2, STATE = -3, FULL = -4, NONE = -9;
@@ -19,6 +21,22 @@ final class Check {
         System.out.println(right + " answers as due, " + wrong + " not");
         if (wrong != 0 || right == 0) {
             System.exit(1);
+        }
+    }
+
+    /** Every answer the same as it was, told by the first that is not. */
+    void dueAlike(String when, List<String> got, List<String> want) {
+        String differs = got.size() == want.size() ? "" : "asked " + got.size() + ", due is " + want.size();
+        for (int i = 0; i < want.size() && i < got.size() && differs.isEmpty(); i++) {
+            if (!got.get(i).equals(want.get(i))) {
+                differs = got.get(i) + ", due is " + want.get(i);
+            }
+        }
+        if (differs.isEmpty()) {
+            right++;
+        } else {
+            wrong++;
+            System.out.println(when + ": " + differs);
         }
     }
 
