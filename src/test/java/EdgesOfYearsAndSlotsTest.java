@@ -25,6 +25,7 @@ public final class EdgesOfYearsAndSlotsTest {
         keptOnceMore();
         goneOnMoreThanOnce();
         actsAreGoneWhenOneGoesOn();
+        undoLeavesWhatWasKept();
         check.end();
     }
 
@@ -305,5 +306,18 @@ public final class EdgesOfYearsAndSlotsTest {
         x.day();
         check.due("one act", x.undo(), 0);
         check.due("THE DAY", x.count(3), 20);
+    }
+
+    private static void undoLeavesWhatWasKept() {
+        LetHoles x = Check.dairy("DO0Ha00");
+        Check.days(x, 2);
+        x.keep(0);
+        check.due("undone", x.undo(), 1);
+        x.keep(1);
+        check.due("undone", x.undo(), 0);
+        check.due("slot 0", x.again(0), 2);
+        check.due("its cells", x.count(4), Check.bits(0, 1, 2));
+        check.due("slot 1", x.again(1), 1);
+        check.due("its cells", x.count(4), Check.bits(0, 1));
     }
 }
